@@ -1144,9 +1144,10 @@ public final class LedgeLeaps {
             return at(codes, place - 1);
         }
 
+        /** No number has more than two figures. */
         private int nextNumber() {
             int number = 0;
-            while (place < length && isDigit(at(codes, place))) {
+            for (int i = 0; i < 2 && place < length && isDigit(at(codes, place)); i++) {
                 number = 10 * number + nextCode() - '0';
             }
             return number;

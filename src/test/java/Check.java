@@ -6,8 +6,11 @@ final class Check {
     static final Class<?> ARGUMENT = IllegalArgumentException.class;
     static final Class<?> STATE = IllegalStateException.class;
 
+    /** A call that does not end is found by it; all tests together take some seconds. */
+    private static final long MOST_MILLISECONDS = 300_000;
+
     private static int wrong;
-    private static String place = "";
+    private static volatile String place = "";
 
     private Check() {
     }
@@ -15,6 +18,21 @@ final class Check {
     /** What is found wrong from now on is told with this place. */
     static void at(String where) {
         place = where;
+    }
+
+    /** The test fails if it does not end: no call of the program may fail to. */
+    static void mustEnd() {
+        Thread watch = new Thread(() -> {
+            try {
+                Thread.sleep(MOST_MILLISECONDS);
+            } catch (InterruptedException e) {
+                return;
+            }
+            System.out.println(place + ": a call does not end");
+            Runtime.getRuntime().halt(1);
+        });
+        watch.setDaemon(true);
+        watch.start();
     }
 
     static void wrong(String told) {

@@ -170,6 +170,15 @@ final class LeapPromises {
             dueNumber(Levels.with(9, 1, 10, 1), 5, 0, 1, 3, 3);
             dueNumber(Levels.with(9, 1, 10, 1), 10, 2, 1, 3, 5);
         });
+        s.holds("3: the greatest row that it comes to, with that of its beginning;", "lower than another leap before", () -> {
+            LedgeLeaps x = Levels.with(5, 8);
+            dueNumber(x, 5, 9, 1, 3, 9);
+            dueNumber(x, 10, 0, 1, 3, 3);
+            x.set(0, 1);
+            dueNumber(x, 10, 0, 1, 3, 1);
+            x.leap(1, 0);
+            dueNumber(x, 10, 0, 1, 3, 1);
+        });
         s.holds("4: 1 if a wall is met, otherwise 0", "in the first tick, in the last one, and in none", () -> {
             LedgeLeaps x = new LedgeLeaps();
             dueNumber(x, 0, 0, -1, 4, 1);

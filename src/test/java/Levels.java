@@ -48,6 +48,16 @@ final class Levels {
         return x;
     }
 
+    /**
+     * With the rise 1: from the right part of the ground, the ledge 1, no leap comes over the block at the column 8 to
+     * the left one, the ledge 0; the top of the block is the ledge 2.
+     */
+    static LedgeLeaps dividedGround() {
+        LedgeLeaps x = with(8, 0, 8, 1, 8, 2, 8, 3);
+        x.set(0, 1);
+        return x;
+    }
+
     /** All cells hold blocks, but the one of the runner. */
     static LedgeLeaps full() {
         LedgeLeaps x = new LedgeLeaps();

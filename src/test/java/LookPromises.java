@@ -212,6 +212,12 @@ final class LookPromises {
                 Check.due("ledgeOf(" + ledge + ", 3)", x.ledgeOf(ledge, 3), due[ledge]);
             }
         });
+        s.holds(from, "from the cells at the edges and at the top", () -> {
+            LedgeLeaps x = Levels.with(0, 4, 19, 4, 10, 8);
+            for (int ledge = 1; ledge <= 3; ledge++) {
+                Check.due("ledgeOf(" + ledge + ", 3)", x.ledgeOf(ledge, 3), 1);
+            }
+        });
         s.holds(standing, "a run-up of 0, and not one of 1, 2 or 3", () -> {
             int[] firsts = {8, 9, 13, 17};
             for (int first : firsts) {
@@ -227,6 +233,17 @@ final class LookPromises {
         s.holds(to, "not from itself, though a leap does", () -> {
             Check.due("ledgeOf(0, 5) of the ground alone", new LedgeLeaps().ledgeOf(0, 5), 0);
             Check.due("ledgeOf(1, 5) of a box", Levels.box().ledgeOf(1, 5), 0);
+        });
+        s.holds(to, "from the first ledge, and from the last one", () -> {
+            LedgeLeaps x = Levels.with(9, 2);
+            Check.due("ledgeOf(1, 5)", x.ledgeOf(1, 5), 1);
+            Check.due("ledgeOf(0, 5)", x.ledgeOf(0, 5), 1);
+        });
+        s.holds(to, "by each run-up from 0 to 3", () -> {
+            for (int first : new int[] {8, 9, 13, 17}) {
+                LedgeLeaps x = Levels.platforms(5, first);
+                Check.due("ledgeOf(2, 5) with the column " + first, x.ledgeOf(2, 5), 1);
+            }
         });
         s.holds(to, "also by running leaps alone, and none up to a tower", () -> {
             LedgeLeaps x = Levels.platforms(5, 13);

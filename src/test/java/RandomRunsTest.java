@@ -19,6 +19,7 @@ public final class RandomRunsTest {
     }
 
     public static void main(String[] args) {
+        Check.mustEnd();
         for (int run = 0; run < RUNS; run++) {
             new RandomRunsTest(run).play();
         }

@@ -121,6 +121,15 @@ final class ReachPromises {
                 Check.fewest(y, 1, 3, 3, 2);
                 Check.fewest(y, 3, 0, 3, 1);
             });
+        s.holds("Returns the fewest (the same for both);", "to the first ledge over another one", () -> {
+            LedgeLeaps x = Levels.dividedGround();
+            Levels.build(x, 12, 3);
+            // from (12,4) to (8,4), and from there to the left part of the ground
+            Check.fewest(x, 3, 0, 3, 2);
+            Check.fewest(x, 3, 2, 3, 1);
+            Check.fewest(x, 2, 0, 3, 1);
+            Check.fewest(x, 1, 0, 3, NONE);
+        });
         s.holds("Returns the fewest (the same for both);", "many levels, both against leaps in a row", () -> {
             for (int seed = 0; seed < 40; seed++) {
                 sameForBoth(seed);
@@ -212,6 +221,14 @@ final class ReachPromises {
                 x.put(4, 5);
                 Check.due("onlyRunning(0) with the run-up " + runUp, x.onlyRunning(0), runUp == 0 ? NONE : 2);
             }
+        });
+        s.holds("Finds a ledge that only a running leap comes to.", "the first ledge", () -> {
+            LedgeLeaps x = Levels.dividedGround();
+            Levels.buildRow(x, 4, 13, 19);
+            x.put(13, 5);
+            // with the run-up 1: (11,6) (9,6) (7,5) (5,3) (3,0), and the ground; without: the wall (8,3)
+            Check.due("slowest(3, 0)", x.slowest(3, 0), 1);
+            Check.due("onlyRunning(0)", x.onlyRunning(0), 0);
         });
         s.holds("- `rank`: from 0", "the least and the greatest", () -> {
             LedgeLeaps x = threeBeyondAGap();

@@ -6,6 +6,7 @@ public final class RoomTest {
     private static final long MOST_BYTES = 2_000_000;
 
     public static void main(String[] args) {
+        Check.mustEnd();
         if (!(ManagementFactory.getThreadMXBean() instanceof com.sun.management.ThreadMXBean bean)
             || !bean.isThreadAllocatedMemorySupported()) {
             System.out.println("this machine does not tell what is made");

@@ -3,6 +3,7 @@ import java.io.IOException;
 /** All sentences of the document, in its order, and that none of them is without a test. */
 public final class SentencesTest {
     public static void main(String[] args) throws IOException {
+        Check.mustEnd();
         Sentences s = new Sentences();
         LevelTerms.tell(s);
         LeapTerms.tell(s);
